@@ -1,0 +1,20 @@
+/** Runs every test of the project; ends with exit code 1 if one fails. */
+public final class AllTests {
+
+    private AllTests() {
+    }
+
+    public static void main(String[] arguments) {
+        Check check = new Check();
+        FiguresTest.run(check);
+        BodiesTest.run(check);
+        SheetsTest.run(check);
+        CubesTest.run(check);
+        BoardsTest.run(check);
+        DiceTest.run(check);
+        OrdersTest.run(check);
+        FaceTest.run(check);
+        ModelTest.run(check);
+        check.end();
+    }
+}
