@@ -1,4 +1,5 @@
 import java.util.ArrayList;
+import java.util.Arrays;
 import java.util.HashSet;
 import java.util.List;
 import java.util.NoSuchElementException;
@@ -149,48 +150,62 @@ final class BodiesTest {
         check.refused("skin past the last", IndexOutOfBoundsException.class, works, () -> works.skin(3));
     }
 
-    /** A screw of four cubes in each of the 24 turns, made by turning its cells. */
-    private static List<int[]> turnsOfScrew() {
-        int[][] screw = {{0, 0, 0}, {1, 0, 0}, {1, 1, 0}, {1, 1, 1}};
+    /** Five cubes that no turn and no mirror leaves as they are, each next to one before it. */
+    private static final int[][] UNEVEN = {{0, 0, 0}, {1, 0, 0}, {2, 0, 0}, {1, 1, 0}, {0, 0, 1}};
+
+    /** The uneven body in each of the 24 turns (1), or turns with a mirror (-1), moved into the grid's corner. */
+    private static List<int[]> unevenBodies(int determinant) {
         List<int[]> found = new ArrayList<>();
-        for (int[][] matrix : Model.turns(1)) {
-            found.add(cellsOf(screw, matrix));
+        for (int[][] matrix : Model.turns(determinant)) {
+            int[] cells = new int[UNEVEN.length];
+            int step = 1;
+            for (int[] row : matrix) {
+                int least = 3;
+                for (int[] cube : UNEVEN) {
+                    least = Math.min(least, along(row, cube));
+                }
+                for (int index = 0; index < cells.length; index++) {
+                    cells[index] += step * (along(row, UNEVEN[index]) - least);
+                }
+                step *= 4;
+            }
+            found.add(cells);
         }
         return found;
     }
 
-    private static int[] cellsOf(int[][] cubes, int[][] matrix) {
-        int[] cells = new int[cubes.length];
-        for (int index = 0; index < cubes.length; index++) {
-            int cell = 0;
-            int step = 1;
-            for (int[] row : matrix) {
-                int sum = 2;
-                for (int axis = 0; axis < 3; axis++) {
-                    sum += row[axis] * cubes[index][axis];
-                }
-                cell += step * sum;
-                step *= 4;
+    private static int along(int[] row, int[] cube) {
+        return row[0] * cube[0] + row[1] * cube[1] + row[2] * cube[2];
+    }
+
+    private static void unevenInAllTurns(Check check) {
+        Set<String> seen = new HashSet<>();
+        for (int determinant : new int[] {1, -1}) {
+            boolean turned = determinant == 1;
+            for (int[] cells : unevenBodies(determinant)) {
+                CubefoldWorks works = Build.works();
+                Build.body(works, 0, 1, 2, 5, 16);
+                Build.body(works, cells);
+                int[] sorted = cells.clone();
+                Arrays.sort(sorted);
+                seen.add(Arrays.toString(sorted));
+                check.promise(7);
+                check.due("turned, it is alike", turned, () -> works.areAlike(0, 1));
+                check.due("and the other way round", turned, () -> works.areAlike(1, 0));
+                check.promise(8);
+                check.due("mirrored, it is mirrored", !turned, () -> works.areMirrored(0, 1));
+                check.due("and the other way round", !turned, () -> works.areMirrored(1, 0));
+                check.promise(9);
+                check.due("kinds of both", turned ? 1 : 2, works::kinds);
             }
-            cells[index] = cell;
         }
-        return cells;
+        check.promise(7);
+        check.due("all of them lie differently", 48, seen::size);
     }
 
     private static void areAlike(Check check) {
+        unevenInAllTurns(check);
         check.promise(7);
-        Set<String> seen = new HashSet<>();
-        for (int[] cells : turnsOfScrew()) {
-            CubefoldWorks works = Build.works();
-            Build.body(works, 0, 1, 5, 21);
-            Build.body(works, cells);
-            seen.add(java.util.Arrays.toString(cells));
-            check.due("a turned screw is alike", true, () -> works.areAlike(0, 1));
-            check.promise(8);
-            check.due("a turned screw is not mirrored", false, () -> works.areMirrored(0, 1));
-            check.promise(7);
-        }
-        check.due("the screws lie differently", 24, seen::size);
         CubefoldWorks works = Build.works();
         check.refused("areAlike of none", IndexOutOfBoundsException.class, works, () -> works.areAlike(0, 0));
         Build.body(works, 0, 1);

@@ -134,6 +134,15 @@ final class CubesTest {
         Build.sheet(gap, 0, 8, 9, 11, 19);
         check.due("two pieces that a square joins", 1, () -> gap.cubeAdds(0));
         check.due("it asks alone", 5, () -> gap.squares(0));
+        CubefoldWorks ends = Build.works();
+        Build.sheet(ends, 8, 9, 10, 11, 16);
+        check.due("beside the first row", 4, () -> ends.cubeAdds(0));
+        CubefoldWorks last = Build.works();
+        Build.sheet(last, 63 - 8, 63 - 9, 63 - 10, 63 - 11, 63 - 16);
+        check.due("beside the last row", 4, () -> last.cubeAdds(0));
+        CubefoldWorks done = Build.works();
+        Build.sheet(done, CROSS);
+        check.due("a sheet that folds", 0, () -> done.cubeAdds(0));
     }
 
     private static void depth(Check check) {
@@ -222,5 +231,12 @@ final class CubesTest {
         check.due("of like depths the lower", 55, () -> works.fold(0, 0, 1));
         check.due("then the higher", 62, () -> works.fold(0, 0, 2));
         check.due("the last fold", 8, () -> works.fold(0, 0, 62));
+        Build.clear(works, 0);
+        for (int square : new int[] {0, 1, 2, 9}) {
+            works.set(0, square, true);
+        }
+        check.due("the first square is the lowest", 0, () -> works.fold(0, 1, 0));
+        check.due("then comes the second", 2, () -> works.fold(0, 1, 1));
+        check.due("then the one below", 9, () -> works.fold(0, 1, 2));
     }
 }

@@ -1,3 +1,4 @@
+import java.lang.reflect.Field;
 import java.lang.reflect.Method;
 import java.lang.reflect.Modifier;
 import java.util.Arrays;
@@ -54,6 +55,36 @@ final class FaceTest {
                 () -> Arrays.toString(CubefoldWorks.class.getDeclaredConstructors()));
         check.due("no other fields than private ones", true, () -> Arrays.stream(
                 CubefoldWorks.class.getDeclaredFields()).allMatch(field -> Modifier.isPrivate(field.getModifiers())));
+        rules(check);
+    }
+
+    /** Rules 1, 2 and 5 of LANGUAGE.md, as far as the compiled classes tell them. */
+    private static void rules(Check check) {
+        Set<String> publicNames = new TreeSet<>();
+        for (Method method : CubefoldWorks.class.getMethods()) {
+            publicNames.add(method.getName());
+        }
+        for (Class<?> inside : CubefoldWorks.class.getDeclaredClasses()) {
+            String name = inside.getSimpleName();
+            check.due(name + " is static", true, () -> Modifier.isStatic(inside.getModifiers()));
+            check.due(name + " is not public or protected", 0,
+                    () -> inside.getModifiers() & (Modifier.PUBLIC | Modifier.PROTECTED));
+            for (Method method : inside.getDeclaredMethods()) {
+                check.due(name + " has a name of its own for " + method.getName(), false,
+                        () -> publicNames.contains(method.getName()));
+            }
+            staticFieldsAreFinal(check, inside);
+        }
+        staticFieldsAreFinal(check, CubefoldWorks.class);
+        check.due("twelve classes at most", true, () -> CubefoldWorks.class.getDeclaredClasses().length <= 11);
+    }
+
+    private static void staticFieldsAreFinal(Check check, Class<?> in) {
+        for (Field field : in.getDeclaredFields()) {
+            int modifiers = field.getModifiers();
+            check.due(in.getSimpleName() + "." + field.getName() + " is final if static", true,
+                    () -> !Modifier.isStatic(modifiers) || Modifier.isFinal(modifiers));
+        }
     }
 
     private static String told(Method method) {

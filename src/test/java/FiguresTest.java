@@ -35,13 +35,13 @@ final class FiguresTest {
         works.put(0);
         Build.body(works, 5, 4, 1);
         works.addBody(63);
-        works.addSheet();
+        Build.sheet(works, 60, 3);
         Build.sheet(works, 9, 2);
         works.addBoard();
         works.addBoard();
         works.lay(1, 1);
         long sum = 7;
-        for (int next : new int[] {1, 4, 5, 63, 2, 9, 64, 62, 0, 6}) {
+        for (int next : new int[] {1, 4, 5, 63, 3, 60, 2, 9, 64, 62, 0, 6}) {
             sum = 31 * sum + next;
         }
         long due = sum;
@@ -50,7 +50,7 @@ final class FiguresTest {
         check.due("a sheet without squares adds nothing", due, works::checksum);
         Build.fill(works, 2);
         long wrapped = 7;
-        for (int next : new int[] {1, 4, 5, 63, 2, 9}) {
+        for (int next : new int[] {1, 4, 5, 63, 3, 60, 2, 9}) {
             wrapped = 31 * wrapped + next;
         }
         for (int square = 0; square < 64; square++) {

@@ -190,5 +190,21 @@ final class OrdersTest {
         works.order(sheet, 7);
         works.patent(sheet);
         check.due("a patent does not bar what waits", 672, works::make);
+        orderBetween(check);
+    }
+
+    private static void orderBetween(Check check) {
+        check.promise(38);
+        CubefoldWorks works = Build.works();
+        int[] sheets = {Build.sheet(works, 0), Build.sheet(works, 0, 2), Build.sheet(works, 0, 2, 4),
+            Build.sheet(works, 0, 2, 4, 6)};
+        works.order(sheets[0], 5);
+        works.order(sheets[1], 10);
+        check.due("the first day", 14, works::make);
+        works.order(sheets[2], 7);
+        works.order(sheets[3], 3);
+        check.due("a day that came later", 56, works::make);
+        check.due("a day between", 42, works::make);
+        check.due("the last day", 28, works::make);
     }
 }
