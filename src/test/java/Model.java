@@ -273,7 +273,7 @@ public final class Model {
     }
 
     /** The square next to one, or -1. */
-    private static int next(int square, int way) {
+    static int next(int square, int way) {
         int x = square % 8 + STEPS[way][0];
         int y = square / 8 + STEPS[way][1];
         return x < 0 || x > 7 || y < 0 || y > 7 ? -1 : x + 8 * y;

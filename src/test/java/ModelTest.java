@@ -79,11 +79,7 @@ final class ModelTest {
         int turn = random.nextInt(8);
         int[] net = Build.squaresOf(Build.NETS[random.nextInt(Build.NETS.length)], random.nextInt(4),
                 random.nextInt(5));
-        for (int square = 0; square < 64; square++) {
-            if (model.squares(sheet) > 0 && has(sheet, square)) {
-                callNamed("set", sheet, square, false);
-            }
-        }
+        clear(sheet);
         for (int square : net) {
             callNamed("set", sheet, Model.turnedSquare(square, turn), true);
         }
@@ -95,24 +91,87 @@ final class ModelTest {
         callNamed("order", sheet, random.nextInt(3));
     }
 
+    /** Squares drawn from one to the next, so that the sheet is mostly one, and what is asked of it. */
     private void drawSheet() {
         int sheet = sheet();
-        for (int many = random.nextInt(12); many >= 0; many--) {
-            callNamed("set", sheet, random.nextInt(wide) + 8 * random.nextInt(wide), random.nextInt(3) > 0);
+        if (random.nextInt(3) > 0) {
+            clear(sheet);
         }
-        callNamed("fold", sheet, random.nextInt(wide), random.nextInt(8));
-        callNamed("depth", sheet, random.nextInt(wide), random.nextInt(wide) + 8 * random.nextInt(wide));
-        callNamed("lay", sheet, random.nextInt(4));
+        int square = random.nextInt(wide) + 8 * random.nextInt(wide);
+        for (int many = random.nextInt(2 * wide); many >= 0; many--) {
+            int next = Model.next(square, random.nextInt(4));
+            square = next < 0 ? square : next;
+            callNamed("set", sheet, square, random.nextInt(8) > 0);
+        }
+        callNamed("isOne", sheet);
+        callNamed("ways", sheet);
+        callNamed("fold", sheet, ownSquare(sheet), random.nextInt(8));
+        callNamed("depth", sheet, ownSquare(sheet), ownSquare(sheet));
+        callNamed("cubeAdds", sheet);
+        callNamed("fits", sheet, random.nextInt(3));
+        if (random.nextInt(2) == 0) {
+            callNamed("lay", sheet, random.nextInt(2));
+        }
+        if (random.nextInt(3) == 0) {
+            callNamed("patent", sheet);
+        }
+        drawAlike(sheet);
+    }
+
+    /** The squares of a sheet on another one, turned, and sometimes with one more or less. */
+    private void drawAlike(int sheet) {
+        int other = sheet();
+        int turn = random.nextInt(8);
+        List<Integer> squares = own(sheet);
+        if (other == sheet || squares.size() > 12) {
+            return;
+        }
+        clear(other);
+        for (int square : squares) {
+            callNamed("set", other, Model.turnedSquare(square, turn), true);
+        }
+        if (random.nextInt(3) == 0) {
+            callNamed("set", other, ownSquare(other), false);
+        }
+        callNamed("areLike", sheet, other);
+        callNamed("patentOf", other);
+        callNamed("patent", other);
+        for (int many = random.nextInt(8); many > 0; many--) {
+            callNamed("order", random.nextInt(8), random.nextInt(4));
+        }
     }
 
     private void growBody() {
-        int body = random.nextInt(8);
+        callNamed("addBody", place());
+        int body = random.nextInt(4);
         for (int many = random.nextInt(20); many >= 0; many--) {
             callNamed("addCube", body, place());
         }
-        callNamed("areMirrored", body, random.nextInt(8));
-        callNamed("areAlike", body, random.nextInt(8));
+        callNamed("areMirrored", body, random.nextInt(4));
+        callNamed("areAlike", body, random.nextInt(4));
         callNamed("takeCube", body, place());
+    }
+
+    private void clear(int sheet) {
+        for (int square : own(sheet)) {
+            callNamed("set", sheet, square, false);
+        }
+    }
+
+    private List<Integer> own(int sheet) {
+        List<Integer> squares = new ArrayList<>();
+        for (int square = 0; square < 64; square++) {
+            if (has(sheet, square)) {
+                squares.add(square);
+            }
+        }
+        return squares;
+    }
+
+    private int ownSquare(int sheet) {
+        List<Integer> squares = own(sheet);
+        return squares.isEmpty() || random.nextInt(9) == 0 ? random.nextInt(64)
+                : squares.get(random.nextInt(squares.size()));
     }
 
     private boolean has(int sheet, int square) {
@@ -121,13 +180,20 @@ final class ModelTest {
         return had;
     }
 
+    /** One of the sheets, of which there are a few at first and then more. */
     private int sheet() {
-        callNamed("addSheet");
-        int sheet = 0;
-        while (sheet < 7 && !(Check.outcome(() -> model.squares(8 - 1)) instanceof Class) && random.nextInt(3) > 0) {
-            sheet++;
+        if (random.nextInt(8) == 0) {
+            callNamed("addSheet");
         }
-        return sheet;
+        int count = 1;
+        while (count < 8 && has(count)) {
+            count++;
+        }
+        return random.nextInt(count);
+    }
+
+    private boolean has(int sheet) {
+        return !(Check.outcome(() -> model.squares(sheet)) instanceof Class);
     }
 
     private int place() {
