@@ -186,17 +186,20 @@ final class BodiesTest {
                 CubefoldWorks works = Build.works();
                 Build.body(works, 0, 1, 2, 5, 16);
                 Build.body(works, cells);
+                Build.body(works, 2, 1, 0, 5, 18);
                 int[] sorted = cells.clone();
                 Arrays.sort(sorted);
                 seen.add(Arrays.toString(sorted));
                 check.promise(7);
                 check.due("turned, it is alike", turned, () -> works.areAlike(0, 1));
                 check.due("and the other way round", turned, () -> works.areAlike(1, 0));
+                check.due("the mirrored one is alike to the mirrored", !turned, () -> works.areAlike(1, 2));
                 check.promise(8);
                 check.due("mirrored, it is mirrored", !turned, () -> works.areMirrored(0, 1));
                 check.due("and the other way round", !turned, () -> works.areMirrored(1, 0));
+                check.due("the mirrored one is mirrored to the turned", turned, () -> works.areMirrored(1, 2));
                 check.promise(9);
-                check.due("kinds of both", turned ? 1 : 2, works::kinds);
+                check.due("kinds of the three", 2, works::kinds);
             }
         }
         check.promise(7);
