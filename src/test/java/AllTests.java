@@ -13,6 +13,13 @@ public final class AllTests {
         BoardsTest.run(check);
         DiceTest.run(check);
         OrdersTest.run(check);
+        BodyBounds.run(check);
+        SheetBounds.run(check);
+        FoldingBounds.run(check);
+        BoardBounds.run(check);
+        DieBounds.run(check);
+        OrderBounds.run(check);
+        FigureBounds.run(check);
         FaceTest.run(check);
         ModelTest.run(check);
         check.end();
