@@ -851,7 +851,9 @@ public final class CubefoldWorks {
             }
             boolean more = false;
             for (int pose = 0; pose < POSES; pose++) {
-                more |= lies[pose] != liesNext[pose];
+                if (lies[pose] != liesNext[pose]) {
+                    more = true;
+                }
                 lies[pose] = liesNext[pose];
             }
             return more;

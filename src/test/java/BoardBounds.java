@@ -139,6 +139,12 @@ final class BoardBounds {
         check.due("a line does not go on in the next row", Check.ELEMENT, () -> of(line, 6, 7, 8).fits(0, 0));
         check.due("a line does not go on in the next column", Check.ELEMENT, () -> of(line, 48, 56, 1).fits(0, 0));
         check.due("one square of it is not free", Check.ELEMENT, () -> of(line, 0, 1, 3, 4, 16).fits(0, 0));
+        check.due("far corners", 0, () -> of(new int[] {0, 63}, 0, 63).fits(0, 0));
+        check.due("the other far corners", 100, () -> of(new int[] {0, 63}, 7, 56).fits(0, 0));
+        check.due("far corners, of which one is not free", Check.ELEMENT,
+                () -> of(new int[] {0, 63}, 0, 7, 8, 1, 9, 62, 55, 54).fits(0, 0));
+        check.due("far corners, of which the other one is not free", Check.ELEMENT,
+                () -> of(new int[] {0, 63}, 63, 56, 55, 62, 54, 1, 8, 9).fits(0, 0));
         check.due("all squares fit in a free board", 0, () -> Build.filled(withFreeBoard(), 0).fits(0, 0));
         check.due("all squares do not where one is not free", Check.ELEMENT, () -> {
             CubefoldWorks last = withFreeBoard();

@@ -76,6 +76,7 @@ final class BodiesTest {
     }
 
     private static void neighboursDoNotWrap(Check check) {
+        check.sentence(0, "Cells are next to each other if one of x, y, z differs by 1, and no other one differs");
         for (int cell = 0; cell < 64; cell++) {
             for (int other = 0; other < 64; other++) {
                 int from = cell;
@@ -86,6 +87,7 @@ final class BodiesTest {
                 check.due("addCube of " + to + " to " + from, want, () -> works.addCube(0, to));
             }
         }
+        check.promise(3);
     }
 
     private static int distance(int cell, int other) {

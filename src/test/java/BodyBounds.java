@@ -1,4 +1,6 @@
+import java.util.ArrayList;
 import java.util.Arrays;
+import java.util.List;
 
 /** The sentences of promises 1 to 10, and of the Terms on bodies, that name a boundary. */
 final class BodyBounds {
@@ -7,6 +9,9 @@ final class BodyBounds {
     private static final String NO_BODY_FOR_EITHER = "IndexOutOfBoundsException if there is no such body, for either";
     private static final String OUT_OF_RANGE = "IllegalArgumentException if a number is out of range";
     private static final String FIRST = "the exception that is documented first";
+
+    /** Bodies that no turn and no mirror leaves as they are; the second one goes from rim to rim of the grid. */
+    private static final int[][] UNEVEN = {{0, 1, 2, 5, 16}, {16, 17, 18, 19, 23, 27, 31, 15}};
 
     private final Check check;
 
@@ -24,6 +29,7 @@ final class BodyBounds {
         bounds.nextCells();
         bounds.skins();
         bounds.alikeAndMirrored();
+        bounds.turnedAndMoved();
         bounds.addBody();
         bounds.addCube();
         bounds.takeCube();
@@ -124,6 +130,60 @@ final class BodyBounds {
         check.due("one that is alike alone", "true false", () -> works.areAlike(2, 2) + " " + works.areMirrored(2, 2));
         check.due("two that are neither", "false false",
                 () -> works.areAlike(0, 2) + " " + works.areMirrored(0, 2));
+    }
+
+    private void turnedAndMoved() {
+        for (int[] cells : UNEVEN) {
+            int[] fewer = Arrays.copyOf(cells, cells.length - 1);
+            for (int determinant : new int[] {1, -1}) {
+                for (int[][] matrix : Model.turns(determinant)) {
+                    for (int[] other : movedAnywhere(matrix, cells)) {
+                        alikeOrMirrored(cells, other, determinant);
+                        alikeOrMirrored(fewer, other, 0);
+                    }
+                }
+            }
+        }
+    }
+
+    /** Alike if the determinant is 1, mirrored if it is -1, and neither if it is 0. */
+    private void alikeOrMirrored(int[] cells, int[] other, int determinant) {
+        CubefoldWorks works = of(cells);
+        Build.body(works, other);
+        String what = Arrays.toString(cells) + " and " + Arrays.toString(other);
+        check.sentence(0, "Bodies are alike if one becomes the other one by turns and by being moved");
+        check.due(what, determinant == 1, () -> works.areAlike(0, 1));
+        check.due(what, determinant == 1 ? 1 : 2, works::kinds);
+        check.sentence(0, "they are mirrored if one becomes the other one by turns, being moved, and a mirror");
+        check.due(what, determinant == -1, () -> works.areMirrored(0, 1));
+    }
+
+    /** The body turned by the matrix, at each place of the grid that has room for it. */
+    private static List<int[]> movedAnywhere(int[][] matrix, int[] cells) {
+        List<int[]> found = new ArrayList<>();
+        for (int move = 0; move < 64; move++) {
+            int[] moved = new int[cells.length];
+            boolean isRoom = true;
+            for (int row = 2; row >= 0; row--) {
+                int least = 3;
+                for (int cell : cells) {
+                    least = Math.min(least, along(matrix[row], cell));
+                }
+                for (int index = 0; index < cells.length; index++) {
+                    int at = along(matrix[row], cells[index]) - least + (move >> 2 * row & 3);
+                    isRoom &= at <= 3;
+                    moved[index] = 4 * moved[index] + at;
+                }
+            }
+            if (isRoom) {
+                found.add(moved);
+            }
+        }
+        return found;
+    }
+
+    private static int along(int[] row, int cell) {
+        return row[0] * (cell & 3) + row[1] * (cell >> 2 & 3) + row[2] * (cell >> 4);
     }
 
     private void addBody() {

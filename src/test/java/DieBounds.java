@@ -38,7 +38,7 @@ final class DieBounds {
     }
 
     private void die() {
-        check.sentence(0, "with 6 below, 1 on top, 2 to the lower row, 3 to the higher column, opposite ones 7 together");
+        check.sentence(0, "with 6 below, 1 on top, 2 to the lower row, 3 to the higher column, opposite 7 together");
         check.due("below", 6, () -> Build.works().below());
         check.due("on top", 1, () -> Build.works().onTop());
         check.due("to the lower row", 2, () -> at(27).roll('n'));

@@ -154,7 +154,8 @@ final class FigureBounds {
             all[square] = square;
         }
         int[][] parts = {{0}, {62, 63}, {0, 1, 5, 21}, {0, 1, 4, 20}, {0, 1, 2}, {58, 62, 63}, {42, 43, 47},
-            Build.BLOCK, {}, {63}, Build.CROSS, all, {0, 63}, {5, 6}, {55, 63}, {0, 1, 8}, {64, 64, 58, 0}, {63, 3 + 2}};
+            Build.BLOCK, {}, {63}, Build.CROSS, all, {0, 63}, {5, 6}, {55, 63}, {0, 1, 8}, {64, 64, 58, 0},
+            {63, 5}};
         BigInteger sum = BigInteger.valueOf(7);
         for (int[] part : parts) {
             sum = added(sum, part);
@@ -226,6 +227,16 @@ final class FigureBounds {
         check.due("a new object", true, () -> Build.works().isSound());
         check.due("one of each", true, () -> Build.one().isSound());
         check.due("as much of all as there can be", true, () -> Build.full().isSound());
+        CubefoldWorks rolling = Build.works();
+        for (char way : "eeeessss".toCharArray()) {
+            rolling.roll(way);
+            check.due("the die lies with " + rolling.below() + " below", true, rolling::isSound);
+        }
+        CubefoldWorks waiting = Build.full();
+        for (int many = 19; many >= 0; many--) {
+            waiting.make();
+            check.due(many + " orders wait", true, waiting::isSound);
+        }
         check.due("after refused calls", true, () -> {
             CubefoldWorks works = Build.full();
             Check.outcome(() -> works.addBody(0));

@@ -194,7 +194,7 @@ final class FoldingBounds {
     }
 
     private void order() {
-        check.sentence(0, "Squares are folded by their depths, the greatest first, of like ones the lower, the base not");
+        check.sentence(0, "Squares are folded by depths, the greatest first, of like ones the lower, the base not");
         int[] fromMiddle = {25, 1, 8, 10, 17};
         int[] fromEnd = {1, 8, 10, 9, 17};
         for (int index = 0; index < 5; index++) {

@@ -97,6 +97,12 @@ final class OrderBounds {
             works.patent(1);
             return works;
         }, works -> works.patent(0));
+        check.refuses("the second of two has one", Check.UNSUPPORTED, () -> {
+            CubefoldWorks works = patented(0, 1);
+            Build.sheet(works, 0, 1, 2);
+            works.patent(1);
+            return works;
+        }, works -> works.patent(1));
         check.sentence(35, "Returns how many there are");
         check.due("one square", 1, () -> of(63).patent(0));
         check.due("all squares", 1, () -> Build.filled(of(), 0).patent(0));
@@ -227,6 +233,15 @@ final class OrderBounds {
         check.due("one between like ones", "3 1 2 4 ", () -> turnsOf(50, 50, 49, 50));
         check.due("one after like ones", "1 2 4 3 ", () -> turnsOf(50, 50, 51, 50));
         check.due("as days, not as texts", "2 1 3 ", () -> turnsOf(10, 9, 90));
+        check.due("days of orders that were made count no more", "28 14", () -> {
+            CubefoldWorks works = of(0);
+            works.order(0, 50);
+            works.order(0, 60);
+            works.make();
+            works.set(0, 2, true);
+            works.order(0, 55);
+            return works.make() + " " + works.make();
+        });
         check.due("a later order for an earlier day than one that was made", "14 28", () -> {
             CubefoldWorks works = of(0);
             works.order(0, 50);
@@ -275,6 +290,12 @@ final class OrderBounds {
             Build.sheet(works, 55, 63);
             return works;
         }, works -> works.order(1, 99));
+        check.refuses("the second of two patents bars it", Check.UNSUPPORTED, () -> {
+            CubefoldWorks works = patented(0, 1);
+            Build.sheet(works, 0, 1, 2);
+            works.patent(1);
+            return works;
+        }, works -> works.order(1, 5));
         check.due("a patent on another one does not bar", 14, () -> {
             CubefoldWorks works = patented(0, 1);
             works.set(0, 1, false);

@@ -24,6 +24,7 @@ final class SheetBounds {
         bounds.squaresAndEdge();
         bounds.isOne();
         bounds.areLike();
+        bounds.moved();
         bounds.ways();
     }
 
@@ -213,7 +214,7 @@ final class SheetBounds {
         check.due("the first has one", false, () -> like(new int[] {0}, new int[0]));
         check.due("the second has one", false, () -> like(new int[0], new int[] {63}));
         check.due("each has one", true, () -> like(new int[] {0}, new int[] {63}));
-        check.sentence(0, "Sheets are alike if one becomes the other one by quarter turns, being turned over, and moved");
+        check.sentence(0, "Sheets are alike if one becomes the other one by quarter turns, turned over, and moved");
         check.due("moved from rim to rim", true, () -> like(new int[] {0, 1, 2, 8}, new int[] {53, 54, 55, 61}));
         check.due("a quarter", true, () -> like(new int[] {0, 1, 2, 8}, new int[] {7, 15, 23, 6}));
         check.due("a half", true, () -> like(new int[] {0, 1, 2, 8}, new int[] {63, 62, 61, 55}));
@@ -225,6 +226,44 @@ final class SheetBounds {
         check.due("with a square more", false, () -> like(new int[] {0, 1, 2}, new int[] {0, 1}));
         check.due("rows that go over the rim", false, () -> like(new int[] {6, 7}, new int[] {7, 8}));
         check.due("the same full sheets", true, () -> Build.filled(Build.full(), 7).areLike(7, 3));
+    }
+
+    /** Rows and columns of squares, of all sizes at all places. */
+    private void moved() {
+        check.sentence(0, "Sheets are alike if one becomes the other one by quarter turns, turned over, and moved");
+        for (int size = 0; size < 64; size++) {
+            int wide = size % 8 + 1;
+            int high = size / 8 + 1;
+            long first = block(0, wide, high);
+            for (int place = 0; place < 64; place++) {
+                if (place % 8 + wide <= 8 && place / 8 + high <= 8 && wide * high <= 16) {
+                    CubefoldWorks works = of();
+                    works.addSheet();
+                    set(works, 0, first);
+                    set(works, 1, block(place, wide, high));
+                    check.due(wide + " by " + high + " at " + place, true, () -> works.areLike(0, 1));
+                    works.set(1, place, false);
+                    check.due("less its corner", false, () -> works.areLike(0, 1));
+                }
+            }
+        }
+    }
+
+    private static long block(int place, int wide, int high) {
+        long row = (1L << wide) - 1 << place;
+        long squares = 0;
+        for (int many = 0; many < high; many++) {
+            squares |= row << 8 * many;
+        }
+        return squares;
+    }
+
+    private static void set(CubefoldWorks works, int sheet, long squares) {
+        for (int square = 0; square < 64; square++) {
+            if ((squares >> square & 1) != 0) {
+                works.set(sheet, square, true);
+            }
+        }
     }
 
     private static boolean like(int[] squares, int[] others) {

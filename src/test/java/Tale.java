@@ -7,7 +7,8 @@ enum Tale {
             for (int number = 0; number < 8; number++) {
                 int body = number;
                 add(told, Check.outcome(() -> works.cubes(body)), Check.outcome(() -> works.skin(body)));
-                add(told, Check.outcome(() -> works.areAlike(body, 0)), Check.outcome(() -> works.areMirrored(0, body)));
+                add(told, Check.outcome(() -> works.areAlike(body, 0)));
+                add(told, Check.outcome(() -> works.areMirrored(0, body)));
             }
             for (int many = 0; many < 9; many++) {
                 add(told, Check.outcome(() -> works.addBody(21)));
