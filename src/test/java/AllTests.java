@@ -6,22 +6,24 @@ public final class AllTests {
 
     public static void main(String[] arguments) {
         Check check = new Check();
-        FiguresTest.run(check);
-        BodiesTest.run(check);
-        SheetsTest.run(check);
-        CubesTest.run(check);
-        BoardsTest.run(check);
-        DiceTest.run(check);
-        OrdersTest.run(check);
-        BodyBounds.run(check);
-        SheetBounds.run(check);
-        FoldingBounds.run(check);
-        BoardBounds.run(check);
-        DieBounds.run(check);
-        OrderBounds.run(check);
-        FigureBounds.run(check);
-        FaceTest.run(check);
-        ModelTest.run(check);
+        check.part("ExamplesTest", ExamplesTest::run);
+        check.part("FiguresTest", FiguresTest::run);
+        check.part("BodiesTest", BodiesTest::run);
+        check.part("SheetsTest", SheetsTest::run);
+        check.part("CubesTest", CubesTest::run);
+        check.part("BoardsTest", BoardsTest::run);
+        check.part("DiceTest", DiceTest::run);
+        check.part("OrdersTest", OrdersTest::run);
+        check.part("BodyBounds", BodyBounds::run);
+        check.part("SheetBounds", SheetBounds::run);
+        check.part("FoldingBounds", FoldingBounds::run);
+        check.part("BoardBounds", BoardBounds::run);
+        check.part("DieBounds", DieBounds::run);
+        check.part("OrderBounds", OrderBounds::run);
+        check.part("FigureBounds", FigureBounds::run);
+        check.part("FaceTest", FaceTest::run);
+        check.part("ModelTest", ModelTest::run);
+        check.part("ReadmeTest", ReadmeTest::run);
         check.end();
     }
 }

@@ -1,4 +1,4 @@
-/** Makes bodies and sheets for the tests, and tells what a works answers without changing it. */
+/** Makes bodies and sheets for the tests. */
 final class Build {
 
     private Build() {
@@ -125,25 +125,5 @@ final class Build {
         for (int square = 0; square < 64; square++) {
             works.set(sheet, square, true);
         }
-    }
-
-    /** All that the calls tell that change nothing. */
-    static String picture(CubefoldWorks works) {
-        StringBuilder picture = new StringBuilder();
-        picture.append(works.checksum()).append(' ').append(works.earned()).append(' ').append(works.kinds());
-        picture.append(' ').append(works.below()).append(works.onTop()).append(works.rolls(0, 1));
-        picture.append(works.rolls(0, 2)).append(works.rolls(0, 3));
-        picture.append(' ').append(Check.outcome(works::usedShare)).append(Check.outcome(works::meanSkin));
-        for (int number = 0; number < 8; number++) {
-            int one = number;
-            picture.append(' ').append(Check.outcome(() -> works.cubes(one)));
-            picture.append(' ').append(Check.outcome(() -> works.squares(one)));
-            picture.append(' ').append(Check.outcome(() -> works.patentOf(one)));
-            for (int square = 0; square < 64; square++) {
-                int place = square;
-                picture.append(Check.outcome(() -> works.isFree(one, place)) == Boolean.TRUE ? '.' : '#');
-            }
-        }
-        return picture.toString();
     }
 }

@@ -2,6 +2,7 @@ import java.util.Map;
 import java.util.NoSuchElementException;
 import java.util.Objects;
 import java.util.TreeMap;
+import java.util.function.Consumer;
 
 /** Counts the checks of each promise and of each sentence that names a boundary, and prints those that fail. */
 final class Check {
@@ -42,6 +43,17 @@ final class Check {
         }
     }
 
+    /** Runs one part of the tests; what it throws while it sets up its works fails, and the other parts still run. */
+    void part(String name, Consumer<Check> tests) {
+        try {
+            tests.accept(this);
+        } catch (RuntimeException e) {
+            wrong++;
+            System.out.println(name + " was cut short at promise " + (sentence == null ? promise : sentence));
+            e.printStackTrace(System.out);
+        }
+    }
+
     /** The checks that follow are of this promise; 0 is for what no single promise says. */
     void promise(int number) {
         promise = number;
@@ -71,11 +83,14 @@ final class Check {
         }
     }
 
-    /** The call throws exactly this exception, and the works answers everything as before. */
+    /**
+     * The call throws exactly this exception, and changes no sum over the works. This looks with four calls, so that a
+     * works can be asked many times within its 512 calls; refuses looks at all.
+     */
     void refused(String what, Class<? extends RuntimeException> want, CubefoldWorks works, Call call) {
-        String before = Build.picture(works);
+        String before = works.checksum() + " " + works.earned();
         due(what, want, call);
-        due(what + " changed nothing", before, () -> Build.picture(works));
+        due(what + " changed nothing", before, () -> works.checksum() + " " + works.earned());
     }
 
     /** The call throws exactly this exception, and no later call can tell that it was made. */

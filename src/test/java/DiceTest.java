@@ -2,6 +2,10 @@
 final class DiceTest {
 
     private static final int[] WRONG = {-1, 64, Integer.MIN_VALUE, Integer.MAX_VALUE};
+    private static final String WAYS = "nsew";
+
+    /** What is below after one roll each of these ways. */
+    private static final int[] FIRST_ROLLS = {2, 5, 3, 4};
 
     private DiceTest() {
     }
@@ -34,12 +38,10 @@ final class DiceTest {
     private static void roll(Check check) {
         check.promise(31);
         CubefoldWorks works = Build.works();
-        String ways = "nsew";
-        int[] dues = {2, 5, 3, 4};
         int[] next = {19, 35, 28, 26};
         for (int index = 0; index < 4; index++) {
-            char way = ways.charAt(index);
-            int due = dues[index];
+            char way = WAYS.charAt(index);
+            int due = FIRST_ROLLS[index];
             int square = next[index];
             works.put(27);
             check.due("roll " + way, due, () -> works.roll(way));
@@ -49,21 +51,25 @@ final class DiceTest {
             check.refused("no way " + (int) way, IllegalArgumentException.class, works, () -> works.roll(way));
         }
         for (int square = 0; square < 64; square++) {
-            works.put(square);
-            for (int index = 0; index < 4; index++) {
-                char way = ways.charAt(index);
-                boolean leaves = index == 0 && square < 8 || index == 1 && square > 55
-                        || index == 2 && square % 8 == 7 || index == 3 && square % 8 == 0;
-                if (leaves) {
-                    check.refused("off the paper " + way, UnsupportedOperationException.class, works,
-                            () -> works.roll(way));
-                } else {
-                    check.due("on the paper " + way, dues[index], () -> works.roll(way));
-                }
-                works.put(square);
-            }
+            rollFrom(check, square);
         }
         roundAndRound(check);
+    }
+
+    private static void rollFrom(Check check, int square) {
+        CubefoldWorks works = Build.works();
+        for (int index = 0; index < 4; index++) {
+            works.put(square);
+            char way = WAYS.charAt(index);
+            boolean leaves = index == 0 && square < 8 || index == 1 && square > 55
+                    || index == 2 && square % 8 == 7 || index == 3 && square % 8 == 0;
+            if (leaves) {
+                check.refused("off the paper " + way, UnsupportedOperationException.class, works,
+                        () -> works.roll(way));
+            } else {
+                check.due("on the paper " + way, FIRST_ROLLS[index], () -> works.roll(way));
+            }
+        }
     }
 
     private static void roundAndRound(Check check) {

@@ -271,8 +271,8 @@ final class FigureBounds {
 
     private void refusedAgainAndAgain() {
         check.sentence(0, CHANGES_NOTHING);
-        check.leavesNoTrace("a hundred refused calls", Build::full, works -> {
-            for (int many = 0; many < 100; many++) {
+        check.leavesNoTrace("sixty refused calls", Build::full, works -> {
+            for (int many = 0; many < 30; many++) {
                 Check.outcome(() -> works.addCube(7, 37));
                 Check.outcome(() -> works.cut(1));
             }

@@ -1,4 +1,4 @@
-/** Promises 1 and 40 to 43, and the worked examples. */
+/** Promises 1 and 40 to 43. */
 final class FiguresTest {
 
     private FiguresTest() {
@@ -10,7 +10,6 @@ final class FiguresTest {
         usedShare(check);
         meanSkin(check);
         isSound(check);
-        examples(check);
     }
 
     private static void newObject(Check check) {
@@ -119,35 +118,5 @@ final class FiguresTest {
         works.roll('n');
         works.sharpen();
         check.due("after some work", true, works::isSound);
-    }
-
-    /** The examples of the document; its first one is broken over two lines. */
-    private static void examples(Check check) {
-        check.promise(9);
-        CubefoldWorks bodies = Build.works();
-        check.due("addBody(0)", 0, () -> bodies.addBody(0));
-        check.due("addCube(0, 1)", 2, () -> bodies.addCube(0, 1));
-        check.due("addBody(20)", 1, () -> bodies.addBody(20));
-        check.due("addCube(1, 24)", 2, () -> bodies.addCube(1, 24));
-        check.due("areAlike(0, 1)", true, () -> bodies.areAlike(0, 1));
-        check.due("skin(0)", 10, () -> bodies.skin(0));
-        check.due("kinds()", 1, bodies::kinds);
-        check.due("all(3)", 2, () -> bodies.all(3));
-        check.promise(18);
-        CubefoldWorks sheets = Build.works();
-        check.due("addSheet()", 0, sheets::addSheet);
-        for (int square : new int[] {1, 8, 9, 10, 17, 25}) {
-            check.due("set(0, " + square + ", true)", false, () -> sheets.set(0, square, true));
-        }
-        check.due("folds(0)", true, () -> sheets.folds(0));
-        check.due("opposite(0, 9)", 25, () -> sheets.opposite(0, 9));
-        check.due("edge(0)", 14, () -> sheets.edge(0));
-        check.promise(34);
-        CubefoldWorks dice = Build.works();
-        check.due("roll('e')", 3, () -> dice.roll('e'));
-        check.due("onTop()", 4, dice::onTop);
-        check.due("rolls(0, 6)", 1, () -> dice.rolls(0, 6));
-        check.due("put(9)", 1, () -> dice.put(9));
-        check.due("below()", 6, dice::below);
     }
 }

@@ -161,14 +161,10 @@ final class OrdersTest {
         check.refused("none waits", NoSuchElementException.class, works, works::make);
         int sheet = works.addSheet();
         int[] days = {50, 99, 0, 50, 0, 99, 50, 1, 98, 0};
-        int[] squares = {1, 2, 3, 4, 5, 6, 7, 8, 9, 10};
         for (int index = 0; index < days.length; index++) {
-            Build.clear(works, sheet);
-            for (int square = 0; square < squares[index]; square++) {
-                works.set(sheet, 8 * (square / 4) + 2 * (square % 4) + square / 4 % 2, true);
-            }
+            works.set(sheet, 8 * (index / 4) + 2 * (index % 4) + index / 4 % 2, true);
             check.promise(37);
-            int due = 14 * squares[index];
+            int due = 14 * (index + 1);
             int day = days[index];
             check.due("order", due, () -> works.order(sheet, day));
         }

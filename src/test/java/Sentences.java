@@ -1,6 +1,7 @@
 /**
- * What the document says that names a boundary, promise by promise and sentence by sentence, 0 being the Terms: each
- * needs a check of its own. Sentences on arguments and exceptions stand here as they stand there; longer ones are cut.
+ * What the document says that names a boundary, promise by promise and sentence by sentence, 0 being the Terms, and its
+ * worked examples: each needs a check of its own. Sentences on arguments and exceptions stand here as they stand there;
+ * longer ones are cut.
  */
 final class Sentences {
 
@@ -38,7 +39,8 @@ final class Sentences {
             "10 for each square, 1 for each side of the edge, as it is ordered, 50 more if it folds",
             "A method that throws an exception changes nothing",
             "Nothing is promised beyond the answers and state changes: calls that tell change nothing",
-            "An object is used for at most 512 calls"},
+            "An object is used for at most 512 calls", "Examples: from addBody(0) = 0 to all(3) = 2",
+            "Examples: from addSheet() = 0 to edge(0) = 14", "Examples: from roll('e') = 3 to below() = 6"},
         /* 1 */ {"Creates a works without bodies, sheets and boards; the die lies on the square 0"},
         /* 2 */ {"cell: 0 to 63", "IllegalArgumentException if a number is out of range",
             "IllegalStateException if there are 8", "the exception that is documented first"},
